@@ -268,14 +268,10 @@ public final class Deadlinekeeper {
 
     public int crowd(int what) throws IllegalArgumentException {
         checkArgument(isWithin(what, 0, 2));
-        Stretch fullest = forecast.fullest;
-        if (!fullest.isTooFull()) {
-            return what == 0 ? 0 : NONE;
-        }
         if (what == 0) {
-            return fullest.crowd;
+            return forecast.fullest.crowd;
         }
-        return what == 1 ? fullest.from : fullest.to;
+        return what == 1 ? forecast.fullest.from : forecast.fullest.to;
     }
 
     public int end(int job) throws IndexOutOfBoundsException, IllegalStateException {
@@ -836,11 +832,11 @@ public final class Deadlinekeeper {
         }
     }
 
-    /** The FULLEST stretch of a set of ONCE jobs. */
+    /** The FULLEST stretch of a set of ONCE jobs, if its CROWD is above 0; nobody asks for one that is not too full. */
     private static final class Stretch {
         int crowd;
-        int from;
-        int to;
+        int from = NONE;
+        int to = NONE;
 
         void findIn(Plan plan, int onces) {
             crowd = 0;
@@ -859,7 +855,7 @@ public final class Deadlinekeeper {
 
         private void offer(int offered, int start, int stop) {
             boolean isEarlier = start < from || start == from && stop < to;
-            if (from == NONE || offered > crowd || offered == crowd && isEarlier) {
+            if (offered > crowd || offered == crowd && isEarlier) {
                 crowd = offered;
                 from = start;
                 to = stop;
@@ -1049,8 +1045,7 @@ public final class Deadlinekeeper {
         }
 
         private boolean isDoubled(int job) {
-            return lengthOn(0, job) > 0 && lengthOn(1, job) > 0
-                    && begins[0][job] < ends[1][job] && begins[1][job] < ends[0][job];
+            return begins[0][job] < ends[1][job] && begins[1][job] < ends[0][job];
         }
 
         private int lengthOn(int machine, int job) {

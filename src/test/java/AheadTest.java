@@ -143,6 +143,9 @@ public final class AheadTest {
         Check.is("25 how many", x.pick(2), 3);
         x.strike(2);
         Check.is("25 PICK", x.pick(0), 41);
+        Deadlinekeeper y = onces(new int[][] {{0, 1, 1, 2}, {0, 1, 2, 3}, {0, 1, 2, 98}, {0, 1, 3, 2}, {1, 1, 1, 3}});
+        Check.is("25 by falling GAIN, of the same by rising numbers", y.pick(0), 14);
+        Check.is("25 their GAINS", y.pick(1), 103);
         for (int what = 0; what < 3; what++) {
             Check.is("25 without", new Deadlinekeeper().pick(what), 0);
         }

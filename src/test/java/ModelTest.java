@@ -14,6 +14,10 @@ public final class ModelTest {
     private static final int CALLS = 250;
 
     private static long seed = 20261119;
+    private static int undos;
+    private static int mostRank;
+    private static int mostTerm;
+    private static int mostLength;
 
     private static int draw(int below) {
         seed = seed * 6364136223846793005L + 1442695040888963407L;
@@ -42,7 +46,10 @@ public final class ModelTest {
         Deadlinekeeper x = new Deadlinekeeper();
         Model model = new Model();
         int jobs = 1 + draw(12);
-        int span = 1 + draw(61);
+        int span = 1 + draw(draw(2) == 0 ? 61 : 4);
+        mostRank = draw(2) == 0 ? 9 : draw(4);
+        mostTerm = draw(2) == 0 ? 40 : 1 + draw(8);
+        mostLength = draw(3) == 0 ? 1 : 8;
         StringBuilder calls = new StringBuilder("round " + round + ":");
         for (int k = 0; k < CALLS; k++) {
             String name = name(model, jobs);
@@ -62,6 +69,13 @@ public final class ModelTest {
         boolean isAtZero = (Integer) model.call("ofAll", new int[] {0}) == 0;
         if (isAtZero && model.plan.jobs.size() < jobs && draw(3) > 0) {
             return draw(3) > 0 ? "once" : "every";
+        }
+        if (isAtZero && draw(20) == 0) {
+            undos = draw(9);
+        }
+        if (isAtZero && undos > 0) {
+            undos--;
+            return "undo";
         }
         int way = draw(20);
         if (way < (isAtZero ? 12 : 1)) {
@@ -84,11 +98,11 @@ public final class ModelTest {
     private static int[] arguments(String name, Model model, int span) {
         switch (name) {
             case "once":
-                return new int[] {draw(span) + from(0, 0), from(1, draw(3) == 0 ? 1 : 8), from(1, 40), from(0, 9),
-                    from(0, draw(2) == 0 ? 3 : 99)};
+                return new int[] {draw(span) + from(0, 0), from(1, draw(3) == 0 ? 1 : mostLength), from(1, mostTerm),
+                    from(0, mostRank), from(0, draw(2) == 0 ? 3 : 99)};
             case "every":
                 return new int[] {draw(span) + from(0, 0), from(1, draw(3) == 0 ? 8 : 3),
-                    draw(20) == 0 ? from(1, 61) : PERIODS[draw(PERIODS.length)], from(0, 9)};
+                    draw(20) == 0 ? from(1, 61) : PERIODS[draw(PERIODS.length)], from(0, mostRank)};
             case "needs":
                 return new int[] {job(model), job(model), draw(5) == 0 ? 0 : 1};
             case "section":

@@ -10,6 +10,7 @@ public final class PlanTest {
         promise7();
         promise8();
         promise9();
+        undoBringsBackAll();
         planOnlyAtZero();
         Check.done("PlanTest");
     }
@@ -257,6 +258,40 @@ public final class PlanTest {
         Check.is("9 all is as before", y.plan(7) + y.ofSection(0, 1, true) + y.ofJob(0, 6) + y.ofJob(2, 8), 12);
         Check.is("9 digest too", y.digest(), before);
         Check.is("9 knocks stay", y.knock() + y.undo() + y.knock(), 1 + 6 + 2);
+    }
+
+    /** Every fact of a JOB comes back, though its number was another one's in between. */
+    private static void undoBringsBackAll() {
+        Deadlinekeeper x = new Deadlinekeeper();
+        x.once(7, 3, 11, 2, 55);
+        x.once(9, 1, 30, 4, 6);
+        x.needs(0, 1, true);
+        x.section(0, 1, 1, 3);
+        x.every(4, 2, 6, 8);
+        x.budget(2, 5, 17);
+        int[] once = {7, 3, 0, 18, 2, 55, 2, 2, 0, 0};
+        int[] every = {4, 2, 6, -1, 8, 0, 0, 0, 5, 17};
+        x.strike(0);
+        x.every(1, 2, 5, 9);
+        x.budget(0, 3, 3);
+        x.undo();
+        x.undo();
+        x.undo();
+        for (int what = 0; what < 10; what++) {
+            Check.is("9 ofJob(0, " + what + ")", x.ofJob(0, what), once[what]);
+        }
+        Check.is("9 its SECTION", x.ofSection(0, 1, false) * 10 + x.ofSection(0, 1, true), 13);
+        x.strike(2);
+        x.once(3, 8, 40, 1, 77);
+        x.section(2, 0, 1, 8);
+        x.undo();
+        x.undo();
+        x.undo();
+        for (int what = 0; what < 10; what++) {
+            Check.is("9 ofJob(2, " + what + ")", x.ofJob(2, what), every[what]);
+        }
+        Check.is("9 no SECTION", x.ofSection(2, 0, false), -1);
+        Check.is("9 no CEILING", x.ceiling(0), -1);
     }
 
     private static void planOnlyAtZero() {

@@ -8,10 +8,12 @@ public final class RunTest {
         byRankAndAging();
         lentRanks();
         ceilings();
+        greatestCeiling();
         circles();
         shares();
         turns();
         turnsInAll();
+        turnsOfTwelve();
         budgets();
         budgetsAndCeilings();
         neededJobs();
@@ -263,6 +265,32 @@ public final class RunTest {
         Check.is("its BLOCKER", z.ofTask(1, 9), 0);
         z.run(2);
         traceIs("then it is free", z, "acaab");
+        Deadlinekeeper zero = new Deadlinekeeper();
+        zero.once(0, 3, 40, 0, 0);
+        zero.once(1, 1, 9, 0, 0);
+        zero.section(0, 2, 0, 2);
+        zero.rules(1, 2, 0, 2);
+        zero.run(3);
+        traceIs("a CEILING of 0 blocks RANK 0", zero, "aab");
+    }
+
+    /** Two hold LOCKS; the CEILING of the later one's is the greater, whether its number is smaller or not. */
+    private static void greatestCeiling() {
+        for (int lock = 0; lock < 2; lock++) {
+            Deadlinekeeper x = new Deadlinekeeper();
+            x.once(0, 8, 40, 2, 0);
+            x.once(1, 8, 40, 5, 0);
+            x.once(2, 1, 9, 1, 0);
+            x.once(2, 1, 9, 3, 0);
+            x.section(0, 1 - lock, 0, 8);
+            x.section(1, lock, 0, 8);
+            x.rules(1, 2, 0, 2);
+            x.run(3);
+            traceIs("the second takes its LOCK", x, "abb");
+            Check.is("33 the greatest CEILING", x.ofTask(2, 9), 1);
+            Check.is("33 the only CEILING", x.ofTask(3, 9), 1);
+            Check.is("33 who has BEGUN is not BLOCKED", x.ofTask(0, 9), -1);
+        }
     }
 
     private static void circles() {
@@ -284,7 +312,10 @@ public final class RunTest {
         }
         Check.is("35 LOCKS", x.ofAll(7), 7);
         Check.is("35 BLOCKED in all", x.ofAll(8), 9);
-        x.run(25);
+        x.again();
+        Check.is("35 no CIRCLE at 0", x.ofAll(6), 0);
+        x.run(30);
+        Check.is("35 CIRCLE", x.ofAll(6), 7);
         Check.is("36 the first is not CUT yet", x.holder(0), 0);
         x.run(1);
         Check.is("31 then who waited for its LOCK runs", x.ran(30), 2);
@@ -382,6 +413,24 @@ public final class RunTest {
         Check.is("37 who is BLOCKED keeps its place", y.queued(0) * 100 + y.queued(1) * 10 + y.queued(2), 102);
         y.run(2);
         traceIs("then it runs", y, "acab");
+    }
+
+    private static void turnsOfTwelve() {
+        Deadlinekeeper x = new Deadlinekeeper();
+        for (int job = 0; job < 12; job++) {
+            x.once(0, 2, 40, 0, 0);
+            x.budget(job, 1, 30);
+        }
+        x.rules(3, 1, 0, 0);
+        x.run(14);
+        traceIs("a full QUEUE in which nobody is READY", x, "abcdefghijkl..");
+        for (int k = 0; k < 12; k++) {
+            Check.is("37 all are in it", x.queued(k), k);
+        }
+        Check.noIndex("37 no thirteenth", () -> x.queued(12));
+        x.run(30);
+        traceIs("then it goes on", x, "abcdefghijkl..................abcdefghij..");
+        Check.is("35 two were CUT", x.ofAll(4), 2);
     }
 
     private static void budgets() {

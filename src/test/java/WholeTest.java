@@ -111,17 +111,21 @@ public final class WholeTest {
         x.run(3);
         put(tally(x, 0), "used", 1);
         Check.is("39 wrong USED", x.isSound(), false);
-        Deadlinekeeper y = three();
-        y.run(2);
-        int[] holders = (int[]) inside(inside(y, "course"), "holders");
-        holders[1] = 2;
-        Check.is("39 held by one that is not there", y.isSound(), false);
-        holders[1] = 1;
-        Check.is("39 held by one without a SECTION", y.isSound(), false);
-        holders[1] = 0;
-        Check.is("39 held rightly", y.isSound(), true);
-        put(((Object[]) inside(inside(y, "course"), "tasks"))[0], "left", 0);
-        Check.is("39 held beyond its to", y.isSound(), false);
+        for (int lock = 0; lock < 4; lock++) {
+            Deadlinekeeper y = three();
+            y.section(0, 1, 0, 0);
+            y.section(0, lock, 0, 4);
+            y.run(2);
+            int[] holders = (int[]) inside(inside(y, "course"), "holders");
+            holders[lock] = 2;
+            Check.is("39 held by one that is not there", y.isSound(), false);
+            holders[lock] = 1;
+            Check.is("39 held by one without a SECTION", y.isSound(), false);
+            holders[lock] = 0;
+            Check.is("39 held rightly", y.isSound(), true);
+            put(((Object[]) inside(inside(y, "course"), "tasks"))[0], "left", 0);
+            Check.is("39 held beyond its to", y.isSound(), false);
+        }
     }
 
     private static boolean soundWith(Deadlinekeeper x, String name, int value) throws ReflectiveOperationException {
