@@ -1508,13 +1508,12 @@ public final class Deadlinekeeper {
 
         /** What the known theorems on these ways to run say; each of them asks for a PLAN of its own kind. */
         boolean keepsPromises() {
+            boolean isPlain = plan.onceSet() == 0 && !plan.hasSections() && !plan.hasBudgets();
+            boolean isCutFree = isPlain && plan.mode == BY_DEADLINE && plan.shareOfAll() <= ROUND;
+            boolean isInTime = isPlain && plan.mode == BY_RANK && plan.aging == 0;
             return (!usesCeilings() || isBlockedOnceAtMost())
-                    && (!isPlain() || plan.mode != BY_DEADLINE || plan.shareOfAll() > ROUND || cutInAll() == 0)
-                    && (!isPlain() || plan.mode != BY_RANK || plan.aging > 0 || answersInTime());
-        }
-
-        private boolean isPlain() {
-            return plan.onceSet() == 0 && !plan.hasSections() && !plan.hasBudgets();
+                    && (!isCutFree || cutInAll() == 0)
+                    && (!isInTime || answersInTime());
         }
 
         private boolean isBlockedOnceAtMost() {

@@ -125,6 +125,9 @@ public final class AheadTest {
         Check.is("24 the farthest", full.nextIdle(60), 156);
         Check.is("24 in the last", full.nextIdle(155), 156);
         Check.is("24 ahead of them", full.nextIdle(59), 59);
+        Deadlinekeeper first = onces(new int[][] {{0, 2, 9}});
+        Check.is("23 busy from 0 on", first.idle(0, 3), 1);
+        Check.is("24 busy from 0 on", first.nextIdle(0), 2);
         Check.is("23 without", new Deadlinekeeper().idle(0, 300), 300);
         Check.noArgument("23 from -1", () -> x.idle(-1, 5));
         Check.noArgument("23 from 301", () -> x.idle(301, 5));
@@ -164,6 +167,7 @@ public final class AheadTest {
         cuttingIs("without", new Deadlinekeeper(), 0, 0, 0, 0);
         cuttingIs("the longest, then the smallest number",
                 onces(new int[][] {{0, 3, 4, 1}, {0, 2, 4, 1}, {0, 3, 4, 1}}), 6, 1, 5, 1);
+        cuttingIs("of two alike the smallest number", onces(new int[][] {{0, 3, 4, 1}, {0, 3, 4, 1}}), 2, 1, 1, 1);
         cuttingIs("who is not within stays", onces(new int[][] {{9, 1, 1, 0}, {0, 3, 4, 4}, {1, 3, 3, 5}, {0, 1, 5, 1}}),
                 3, 6, 2, 6);
         cuttingIs("one alone that can't be kept", onces(new int[][] {{0, 8, 7, 99}}), 1, 0, 1, 0);
@@ -185,6 +189,10 @@ public final class AheadTest {
         cuttingIs("of nine by rule", x, 6, 16, 6, 16);
         x.undo();
         cuttingIs("of eight again", x, 1, 18, 6, 15);
+        Deadlinekeeper y = new Deadlinekeeper();
+        y.every(0, 1, 60, 0);
+        y.once(0, 1, 9, 0, 5);
+        cuttingIs("without the number 0", y, 0, 5, 0, 5);
         cuttingIs("no GAIN is not KEPT at best", onces(new int[][] {{0, 1, 9, 0}, {0, 1, 9, 3}, {5, 1, 9, 0}}), 5, 3, 0, 3);
         cuttingIs("of the same GAINS the smallest number", onces(new int[][] {{0, 2, 2, 4}, {0, 1, 2, 2}, {0, 1, 2, 2}}),
                 6, 4, 6, 4);
@@ -251,12 +259,20 @@ public final class AheadTest {
         piecesAre(y, 3, -1, -1, 3, 5);
         Deadlinekeeper z = onces(new int[][] {{0, 8, 1}, {0, 1, 1}});
         Check.is("29 the longest", z.last(), 8);
+        Check.is("39 with it", z.isSound(), true);
         piecesAre(z, 0, 0, 8, -1, -1);
         piecesAre(z, 1, -1, -1, 0, 1);
         Deadlinekeeper w = onces(new int[][] {{0, 4, 1}, {0, 2, 1}, {0, 2, 1}});
         piecesAre(w, 0, 0, 4, -1, -1);
         piecesAre(w, 1, -1, -1, 0, 2);
         piecesAre(w, 2, -1, -1, 2, 4);
+        Deadlinekeeper v = onces(new int[][] {{0, 1, 1}, {0, 8, 1}});
+        piecesAre(v, 1, 1, 8, 0, 1);
+        Check.is("39 one piece begins as the other one ends", v.isSound(), true);
+        v.strike(1);
+        Check.is("29 of one minute", v.last(), 1);
+        v.strike(0);
+        Check.is("29 without ONCE jobs any more", v.last(), 0);
         Check.noIndex("30 no job", () -> y.piece(4, 0, true));
         Check.noIndex("30 no job, no machine", () -> y.piece(-1, 7, true));
         Check.noArgument("30 machine -1", () -> y.piece(0, -1, true));

@@ -39,6 +39,9 @@ public final class AskPlanTest {
         Check.is("12 a chain, itself", y.ofJob(0, 6), 2);
         Check.is("12 a chain, through others", y.ofJob(0, 7), 254);
         Check.is("12 its end", y.ofJob(7, 7), 0);
+        y.strike(3);
+        y.needs(7, 0, true);
+        Check.is("12 through 0", y.ofJob(7, 7), 7);
         Check.noIndex("12 no job", () -> x.ofJob(3, 0));
         Check.noIndex("12 -1", () -> x.ofJob(-1, 99));
         Check.noArgument("12 what -1", () -> x.ofJob(0, -1));

@@ -5,6 +5,7 @@ public final class RunTest {
         promise11();
         promise31And32();
         tasksComeAndGo();
+        eachTaskForItself();
         byRankAndAging();
         lentRanks();
         ceilings();
@@ -89,6 +90,10 @@ public final class RunTest {
         Check.noIndex("11 the QUEUE is empty", () -> x.queued(0));
         Check.is("11 at 0", x.again(), 0);
         Check.is("11 no STEP", x.plan(7), 5);
+        Deadlinekeeper y = inverted(0);
+        y.run(7);
+        y.again();
+        allIs("11 nothing has been run", y, 0, 0, 0, 0, 0, 0, 0, 0, 0);
         Check.is("11 the same once more", x.run(2) * 100 + x.ofTask(0, 6), 1);
     }
 
@@ -154,6 +159,30 @@ public final class RunTest {
         taskIs("its third", z, 1, 1, 4, 8, 12, 1, 0, 0, 0, 1, -1);
         runIs("its third", z, 1, 0, 0, 2, -1, -1, 0, -1, -1);
         allIs("one ran all the time", z, 9, 0, 1, 2, 2, 3, 0, 0, 0);
+    }
+
+    /** What a TASK has done is not the next one's of the same JOB. */
+    private static void eachTaskForItself() {
+        Deadlinekeeper x = new Deadlinekeeper();
+        x.every(0, 2, 8, 5);
+        x.once(8, 4, 5, 1, 0);
+        x.once(0, 1, 3, 2, 0);
+        x.run(9);
+        traceIs("each TASK", x, "caa.....b");
+        taskIs("the second has not BEGUN", x, 0, 1, 2, 8, 16, 1, 5, 0, 0, 1, -1);
+        Check.is("34 LESSER is of one TASK", x.ofRun(0, 5), 1);
+        Check.is("34 ANSWER", x.ofRun(0, 3), 3);
+        x.run(5);
+        traceIs("each TASK", x, "caa.....bbbbaa");
+        Check.is("34 the longest ANSWER", x.ofRun(0, 3), 6);
+        Check.is("34 when the last was OVER", x.ofRun(0, 4), 14);
+        Check.is("35 SWITCHES", x.ofAll(2), 4);
+        Deadlinekeeper y = new Deadlinekeeper();
+        y.every(0, 4, 8, 0);
+        y.once(0, 8, 40, 0, 0);
+        y.rules(3, 3, 0, 0);
+        y.run(14);
+        traceIs("a new TASK has a whole turn", y, "aaabbbabbbaaab");
     }
 
     private static Deadlinekeeper two(int mode, int aging, int protocol) {

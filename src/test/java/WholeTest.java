@@ -195,6 +195,7 @@ public final class WholeTest {
         x.needs(1, 2, true);
         x.strike(0);
         x.section(2, 3, 0, 1);
+        x.every(0, 1, 20, 4);
         for (int mode = 0; mode < 4; mode++) {
             x.rules(mode, 3, 2, mode % 3);
             for (int k = 0; k < 20; k++) {
