@@ -8,6 +8,7 @@ public final class RunTest {
         eachTaskForItself();
         byRankAndAging();
         lentRanks();
+        lentInEachMode();
         ceilings();
         greatestCeiling();
         circles();
@@ -265,6 +266,25 @@ public final class RunTest {
         Check.is("33 lent on", z.ofTask(0, 5) * 100 + z.ofTask(1, 5), 707);
         Check.is("33 no CIRCLE", z.ofAll(6), 0);
         Check.is("35 LOCKS that are held", z.ofAll(7), 3);
+    }
+
+    /** STRENGTH is told in each MODE, lent too, but shows in the order of MODE 1 alone. */
+    private static void lentInEachMode() {
+        for (int mode = 0; mode <= 3; mode++) {
+            Deadlinekeeper x = new Deadlinekeeper();
+            x.once(0, 4, 20, 1, 0);
+            x.once(1, 2, 30, 7, 0);
+            x.once(1, 2, 25, 4, 0);
+            x.section(0, 2, 0, 4);
+            x.section(1, 2, 0, 2);
+            x.rules(mode, 5, 0, 1);
+            x.run(2);
+            Check.is("33 lent in MODE " + mode, x.ofTask(0, 5), 7);
+            Check.is("33 its own in MODE " + mode, x.ofTask(1, 5) * 10 + x.ofTask(2, 5), 74);
+            Check.is("33 its BLOCKER in MODE " + mode, x.ofTask(1, 9), 0);
+            x.run(6);
+            traceIs("MODE " + mode, x, new String[] {"aaaaccbb", "aaaabbcc", "accaaabb", "aaaabbcc"}[mode]);
+        }
     }
 
     private static void ceilings() {
