@@ -11,6 +11,7 @@ public final class AheadTest {
         promise26AtBest();
         promise27();
         promise28();
+        promise28Edges();
         promise29And30();
         onceJobsAlone();
         Check.done("AheadTest");
@@ -236,6 +237,34 @@ public final class AheadTest {
         Check.is("28 alone", y.response(0), 4);
         y.every(0, 1, 60, 3);
         Check.is("28 more than PERIOD", y.response(1), -1);
+    }
+
+    private static void promise28Edges() {
+        Deadlinekeeper x = new Deadlinekeeper();
+        x.every(0, 3, 60, 0);
+        x.every(9, 2, 4, 0);
+        Check.is("28 5 / 4 is rounded up", x.response(0), 7);
+        Check.is("28 one more than its PERIOD", x.response(1), -1);
+        Deadlinekeeper y = new Deadlinekeeper();
+        for (int rank = 0; rank <= 9; rank++) {
+            y.every(rank, 1, 12, rank);
+        }
+        for (int job = 0; job <= 9; job++) {
+            Check.is("28 its RANK or a greater one, response(" + job + ")", y.response(job), 10 - job);
+        }
+        Deadlinekeeper z = new Deadlinekeeper();
+        z.every(0, 8, 60, 0);
+        z.every(0, 4, 5, 9);
+        Check.is("28 as LENGTH is 8", z.response(0), 40);
+        z.every(0, 1, 60, 9);
+        Check.is("28 with one more", z.response(0), 45);
+        z.every(0, 3, 60, 9);
+        Check.is("28 at its PERIOD", z.response(0), 60);
+        z.every(0, 1, 60, 8);
+        Check.is("28 beyond its PERIOD", z.response(0), -1);
+        z.strike(4);
+        z.once(0, 8, 40, 9, 0);
+        Check.is("28 a ONCE job is not in it", z.response(0), 60);
     }
 
     private static void piecesAre(Deadlinekeeper x, int job, int from0, int to0, int from1, int to1) {

@@ -1,4 +1,5 @@
 import java.lang.reflect.Field;
+import java.math.BigInteger;
 
 /** Promises 38 to 40: the whole. */
 public final class WholeTest {
@@ -8,7 +9,11 @@ public final class WholeTest {
         promise39ToldAhead();
         promise39Run();
         promise39Theorems();
+        promise39OfEachJob();
         promise40();
+        promise40Told();
+        promise40WrapsAround();
+        promise40Unsound();
         Check.done("WholeTest");
     }
 
@@ -187,6 +192,24 @@ public final class WholeTest {
         Check.is("39 ANSWER without RESPONSE", soundWith(none, "longestAnswer", 99), true);
     }
 
+    private static void promise39OfEachJob() throws ReflectiveOperationException {
+        String[] names = {"lesser", "lesser", "longestAnswer", "longestAnswer", "used"};
+        int[] values = {1, 2, 12, 13, 60};
+        for (int job = 0; job < 12; job++) {
+            for (int k = 0; k < names.length; k++) {
+                Deadlinekeeper x = new Deadlinekeeper();
+                for (int other = 0; other < 12; other++) {
+                    x.every(0, 1, 60, 9);
+                }
+                x.rules(1, 2, 0, 2);
+                Check.is("28 RESPONSE", x.response(job), 12);
+                x.run(20);
+                put(tally(x, job), names[k], values[k]);
+                Check.is("39 " + names[k] + " " + values[k] + " of " + job, x.isSound(), k == 0 || k == 2);
+            }
+        }
+    }
+
     private static void promise40() {
         Check.is("40 new", new Deadlinekeeper().digest(), -7078129703441425613L);
         Deadlinekeeper x = three();
@@ -209,15 +232,89 @@ public final class WholeTest {
         Check.is("40 without knocks", x.digest(), before);
     }
 
+    /** These were worked out by hand, number by number, and summed up outside of Java. */
+    private static void promise40Told() {
+        Deadlinekeeper x = new Deadlinekeeper();
+        x.once(0, 2, 3, 4, 5);
+        Check.is("40 a ONCE job", x.digest(), 7382720391143647262L);
+        x.run(1);
+        Check.is("40 it has run", x.digest(), -4977883278169952769L);
+        x.again();
+        x.undo();
+        Check.is("40 as a new one", x.digest(), -7078129703441425613L);
+        Deadlinekeeper y = new Deadlinekeeper();
+        y.every(1, 2, 4, 3);
+        Check.is("40 a REPEATING job", y.digest(), -2434007166840047872L);
+    }
+
+    /** The sum without an end, of which digest() tells the lowest 64 bits with their sign. */
+    private static void wrapsAround(String name, Deadlinekeeper x) {
+        digestOf(x);
+        Check.is("40 goes beyond 64 bits, " + name, whole.bitLength() > 64, true);
+        BigInteger rest = whole.mod(BigInteger.ONE.shiftLeft(64));
+        boolean isNegative = rest.bitLength() == 64;
+        BigInteger told = isNegative ? rest.subtract(BigInteger.ONE.shiftLeft(64)) : rest;
+        Check.is("40 wraps around, " + name, String.valueOf(x.digest()), told.toString());
+        negatives += isNegative ? 1 : 0;
+        positives += isNegative ? 0 : 1;
+    }
+
+    private static void promise40WrapsAround() {
+        wrapsAround("new", new Deadlinekeeper());
+        Deadlinekeeper x = new Deadlinekeeper();
+        for (int job = 0; job < 12; job++) {
+            if (job % 4 == 3) {
+                x.every(job, 3, 10, job % 10);
+            } else {
+                x.once(job, job % 3 == 0 ? 1 : 7, 9, 9 - job % 10, 90 - job);
+            }
+            wrapsAround(job + 1 + " JOBS", x);
+        }
+        Check.is("26 both KEPT are alike with nine", x.cutting(false, 0), x.cutting(true, 0));
+        x.rules(1, 1, 1, 1);
+        for (int k = 0; k < 30; k++) {
+            x.run(10);
+            wrapsAround("NOW " + x.ofAll(0), x);
+        }
+        Deadlinekeeper y = new Deadlinekeeper();
+        y.once(0, 8, 8, 0, 10);
+        y.once(0, 2, 8, 0, 6);
+        y.once(0, 2, 8, 0, 7);
+        Check.is("26 the KEPT are not alike", y.cutting(false, 0) * 10 + y.cutting(true, 0), 16);
+        wrapsAround("not alike", y);
+        Check.is("40 some wrap to below 0, some to above", negatives > 5 && positives > 5, true);
+    }
+
+    private static void promise40Unsound() throws ReflectiveOperationException {
+        Deadlinekeeper x = three();
+        x.run(3);
+        long sound = x.digest();
+        put(inside(x, "forecast"), "keptByRule", 0);
+        put(inside(x, "forecast"), "kept", 0);
+        Check.is("39 sound still", x.isSound(), true);
+        long other = x.digest();
+        put(inside(x, "course"), "now", 2);
+        Check.is("39 not sound", x.isSound(), false);
+        Check.is("40 with 0 for not sound", x.digest(), digestOf(x));
+        put(inside(x, "course"), "now", 3);
+        Check.is("40 with 1 for sound", x.digest(), other);
+        Check.is("40 what is KEPT is in it", other == sound, false);
+    }
+
     private static long d;
+    private static BigInteger whole;
+    private static int negatives;
+    private static int positives;
 
     private static void add(long v) {
         d = d * 31 + v;
+        whole = whole.multiply(BigInteger.valueOf(31)).add(BigInteger.valueOf(v));
     }
 
     /** As promise 40 says it, by the other promises alone. */
     static long digestOf(Deadlinekeeper x) {
         d = 5304;
+        whole = BigInteger.valueOf(5304);
         for (int what = 0; what < 8; what++) {
             add(x.plan(what));
         }
